@@ -90,7 +90,7 @@ public final class PermitWeave {
 
     public boolean isClosed(int lane) throws IndexOutOfBoundsException {
         checkLane(lane);
-        return (closedNow() & 1 << lane) != 0;
+        return (closedNow() & (1 << lane)) != 0;
     }
 
     public int detour(int line) throws IndexOutOfBoundsException {
@@ -238,7 +238,7 @@ public final class PermitWeave {
             }
         }
         for (int applicant = 0; applicant < APPLICANTS; applicant++) {
-            points[applicant] += blamed >> applicant & 1;
+            points[applicant] += (blamed >> applicant) & 1;
         }
         return Integer.bitCount(blamed);
     }
@@ -529,7 +529,7 @@ public final class PermitWeave {
             for (int lane = 0; lane < roads.count; lane++) {
                 int one = roads.ones[lane];
                 int other = roads.others[lane];
-                if ((closed & 1 << lane) == 0 && roads.laneMinutes[lane] < shortest[one][other]) {
+                if ((closed & (1 << lane)) == 0 && roads.laneMinutes[lane] < shortest[one][other]) {
                     shortest[one][other] = roads.laneMinutes[lane];
                     shortest[other][one] = roads.laneMinutes[lane];
                 }

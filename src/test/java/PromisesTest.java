@@ -734,6 +734,14 @@ public final class PromisesTest {
         empty.pass(1);
         due.is("no passengers, no fine", empty.fine(0) + empty.points(0) + empty.minutes(0), 0);
         due.is("a detour all the same", empty.complain(0), 1);
+        PermitWeave least = new PermitWeave();
+        least.lane(0, 1, 1);
+        least.lane(0, 1, 2);
+        least.line(0, 1);
+        least.stop(0, 1);
+        dig(least, 0, 0, 50, 1);
+        least.pass(1);
+        due.is("a single minute is above 0", least.fine(0) + 10 * least.points(0), 12);
         linesAreWeighedTogether();
     }
 
@@ -780,7 +788,13 @@ public final class PromisesTest {
         x.pass(1);
         due.is("200 hours", x.points(0), 98);
         due.is("not below 0", x.points(1), 0);
+        x.complain(0);
+        dig(x, 1, 0, 4900, 1);
+        x.complain(0);
+        x.finish(1);
+        due.is("one point", x.points(1), 1);
         x.pass(200);
+        due.is("one point is forgiven", x.points(1), 0);
         due.is("400 hours", x.points(0), 96);
         due.is("the fine stays", x.fine(permit), 100 * 60);
         due.is("LATE by 96 points", causeOf(x, 0, 1, 400 + 289, 1, NONE, false), PermitWeave.LATE);
