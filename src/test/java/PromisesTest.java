@@ -29,6 +29,18 @@ public final class PromisesTest {
         return x;
     }
 
+    /** A lane of 1 minute with a line of 10 passengers over it, and 90 minutes round it. */
+    private static PermitWeave ring() {
+        PermitWeave x = new PermitWeave();
+        x.lane(0, 1, 1);
+        x.lane(1, 2, 30);
+        x.lane(2, 3, 30);
+        x.lane(3, 0, 30);
+        x.line(0, 10);
+        x.stop(0, 1);
+        return x;
+    }
+
     private static int dig(PermitWeave x, int applicant, int lane, int from, int hours) {
         int permit = x.apply(applicant, lane, from, hours, NONE, true);
         x.begin(permit);
@@ -203,18 +215,12 @@ public final class PromisesTest {
         due.is("two legs have no way", x.detour(0), 122);
         x.finish(first);
         due.is("the first goes straight again", x.detour(0), 120);
-        PermitWeave wide = new PermitWeave();
-        wide.lane(0, 9, 1);
-        wide.lane(9, 8, 30);
-        wide.lane(8, 7, 30);
-        wide.lane(7, 0, 30);
-        wide.line(0, 1);
-        wide.stop(0, 9);
+        PermitWeave wide = ring();
         dig(wide, 0, 0, 0, 1);
         due.is("a way round may take more than 60 more", wide.detour(0), 89);
         dig(wide, 0, 1, 0, 1);
         due.is("60 more than over all lanes", wide.detour(0), 60);
-        wide.lane(9, 0, 3);
+        wide.lane(1, 0, 3);
         due.is("a lane that is added is a way round", wide.detour(0), 2);
     }
 
@@ -710,13 +716,7 @@ public final class PromisesTest {
     }
 
     private static void digsThatCostNothing() {
-        PermitWeave x = new PermitWeave();
-        x.lane(0, 1, 1);
-        x.lane(1, 2, 30);
-        x.lane(2, 3, 30);
-        x.lane(3, 0, 30);
-        x.line(0, 10);
-        x.stop(0, 1);
+        PermitWeave x = ring();
         int straight = dig(x, 0, 0, 50, 1);
         due.is("round, 89 more", x.detour(0), 89);
         int round = dig(x, 1, 2, 50, 1);
@@ -746,26 +746,14 @@ public final class PromisesTest {
     }
 
     private static void linesAreWeighedTogether() {
-        PermitWeave x = new PermitWeave();
-        x.lane(0, 1, 1);
-        x.lane(1, 2, 30);
-        x.lane(2, 3, 30);
-        x.lane(3, 0, 30);
-        x.line(0, 10);
-        x.stop(0, 1);
+        PermitWeave x = ring();
         x.line(2, 2);
         x.stop(1, 3);
         dig(x, 0, 0, 50, 1);
         int round = dig(x, 1, 2, 50, 1);
         x.pass(1);
         due.is("-290 and 120 together are below 0", x.fine(round) + x.points(1), 0);
-        x = new PermitWeave();
-        x.lane(0, 1, 1);
-        x.lane(1, 2, 30);
-        x.lane(2, 3, 30);
-        x.lane(3, 0, 30);
-        x.line(0, 10);
-        x.stop(0, 1);
+        x = ring();
         x.line(2, 5);
         x.stop(1, 3);
         dig(x, 0, 0, 50, 1);
