@@ -1,3 +1,5 @@
+import java.util.function.LongSupplier;
+
 /** Takes answers and the ones that are due, and tells which differ. */
 final class Due {
     private final String test;
@@ -50,6 +52,17 @@ final class Due {
             boolean isOwn = trace.length > 0 && trace[0].getClassName().startsWith("PermitWeave");
             return (isOwn ? "" : "the machine's ") + e.getClass().getSimpleName();
         }
+    }
+
+    /** What a call answers, or the exception that it throws, as a text. */
+    static String answer(LongSupplier call) {
+        long[] got = new long[1];
+        String thrown = thrownBy(() -> got[0] = call.getAsLong());
+        return thrown.equals("nothing") ? String.valueOf(got[0]) : thrown;
+    }
+
+    int wrong() {
+        return wrong;
     }
 
     void end() {

@@ -3,9 +3,10 @@ import java.util.List;
 import java.util.Random;
 import java.util.function.LongSupplier;
 
-/** Runs of some 500 calls, right and wrong ones, that a PermitWeave and the Model must answer alike. */
+/** Runs of 512 calls, right and wrong ones, that a PermitWeave and the Model must answer alike. */
 public final class ModelTest {
-    private static final int RUNS = 200;
+    private static final int RUNS = 500;
+    /** What later calls answer is free. */
     private static final int CALLS = 512;
     private static final Due due = new Due("ModelTest");
 
@@ -18,6 +19,7 @@ public final class ModelTest {
     private final int step;
     private final int wrongOf;
     private final int span;
+    private int calls;
     private int lanes;
     private int lines;
     private final List<Integer> lanesOfPermits = new ArrayList<>();
@@ -46,19 +48,17 @@ public final class ModelTest {
         return least + number(most - least + 1);
     }
 
-    private static String answer(LongSupplier call) {
-        long[] got = new long[1];
-        String thrown = Due.thrownBy(() -> got[0] = call.getAsLong());
-        return thrown.equals("nothing") ? String.valueOf(got[0]) : thrown;
-    }
-
     /** The model throws from its own lines, which Due takes for the machine's. */
     private static String modelAnswer(LongSupplier call) {
-        return answer(call).replace("the machine's ", "");
+        return Due.answer(call).replace("the machine's ", "");
     }
 
     private boolean both(String call, LongSupplier asked, LongSupplier wanted) {
-        String got = answer(asked);
+        if (calls == CALLS) {
+            return false;
+        }
+        calls++;
+        String got = Due.answer(asked);
         due.is(name + " at " + now + ": " + call, got, modelAnswer(wanted));
         return !got.endsWith("Exception");
     }
@@ -166,21 +166,16 @@ public final class ModelTest {
     }
 
     private void run() {
-        for (int call = 0; call < CALLS; call++) {
-            if (call < building) {
+        for (int turn = 0; calls < CALLS; turn++) {
+            if (turn < building) {
                 build();
             } else {
                 change();
             }
-            // The object asked so often is used beyond 512 calls, which the answers are not to depend on.
-            if (call % 8 == 7) {
+            if (turn % 12 == 11) {
                 askRoads();
                 askPermits();
             }
-        }
-        for (int call = 0; call < 40; call++) {
-            askRoads();
-            askPermits();
         }
     }
 

@@ -4,49 +4,6 @@ public final class PromisesTest {
     private static final int LOWEST = Integer.MIN_VALUE, HIGHEST = Integer.MAX_VALUE;
     private static final Due due = new Due("PromisesTest");
 
-    /**
-     * Lanes 0-1 (lane 0), 1-2 (lane 1), 2-3 (lane 2) of 5 minutes, 0-3 (lane 3) of 20, 1-3 (lane 4) of 12,
-     * 3-4 (lane 5) of 1.
-     */
-    private static PermitWeave town() {
-        PermitWeave x = new PermitWeave();
-        x.lane(0, 1, 5);
-        x.lane(1, 2, 5);
-        x.lane(2, 3, 5);
-        x.lane(0, 3, 20);
-        x.lane(1, 3, 12);
-        x.lane(3, 4, 1);
-        return x;
-    }
-
-    /** Two lanes between the same two junctions, and a line over them with 10 passengers. */
-    private static PermitWeave street() {
-        PermitWeave x = new PermitWeave();
-        x.lane(0, 1, 4);
-        x.lane(0, 1, 7);
-        x.line(0, 10);
-        x.stop(0, 1);
-        return x;
-    }
-
-    /** A lane of 1 minute with a line of 10 passengers over it, and 90 minutes round it. */
-    private static PermitWeave ring() {
-        PermitWeave x = new PermitWeave();
-        x.lane(0, 1, 1);
-        x.lane(1, 2, 30);
-        x.lane(2, 3, 30);
-        x.lane(3, 0, 30);
-        x.line(0, 10);
-        x.stop(0, 1);
-        return x;
-    }
-
-    private static int dig(PermitWeave x, int applicant, int lane, int from, int hours) {
-        int permit = x.apply(applicant, lane, from, hours, NONE, true);
-        x.begin(permit);
-        return permit;
-    }
-
     private static void finishAfter(PermitWeave x, int permit, int hours) {
         x.pass(hours);
         x.finish(permit);
@@ -124,7 +81,7 @@ public final class PromisesTest {
     }
 
     private static void promise4Stop() {
-        PermitWeave x = town();
+        PermitWeave x = Offices.town();
         x.line(0, 1);
         for (int wrong : new int[] {LOWEST, -1, 1, HIGHEST}) {
             due.throwsBounds("stop of line " + wrong, () -> x.stop(wrong, 0));
@@ -136,14 +93,14 @@ public final class PromisesTest {
         due.throwsState("stop where no way leads", () -> x.stop(0, 9));
         due.is("stop", x.stop(0, 4), 2);
         due.throwsArgument("stop where it stands", () -> x.stop(0, 4));
-        dig(x, 0, 5, 10, 1);
+        Offices.dig(x, 0, 5, 10, 1);
         due.is("a closed lane leads to a stop", x.stop(0, 0), 3);
         due.is("stop again", x.stop(0, 4), 4);
         x.stop(0, 1);
         due.is("stop", x.stop(0, 2), 6);
         due.throwsState("the 7th stop", () -> x.stop(0, 1));
         due.throwsArgument("the last stop comes before the count", () -> x.stop(0, 2));
-        PermitWeave late = town();
+        PermitWeave late = Offices.town();
         late.line(0, 1);
         late.pass(1);
         due.throwsState("stop at the hour 1", () -> late.stop(0, 1));
@@ -152,7 +109,7 @@ public final class PromisesTest {
     }
 
     private static void promise5Way() {
-        PermitWeave x = town();
+        PermitWeave x = Offices.town();
         for (int wrong : new int[] {LOWEST, -1, 10, HIGHEST}) {
             due.throwsBounds("way from " + wrong, () -> x.way(wrong, 0));
             due.throwsBounds("way to " + wrong, () -> x.way(0, wrong));
@@ -161,17 +118,17 @@ public final class PromisesTest {
         due.is("over four lanes", x.way(0, 4), 16);
         due.is("and back", x.way(4, 0), 16);
         due.is("no way", x.way(0, 5), NONE);
-        int first = dig(x, 0, 1, 0, 1);
+        int first = Offices.dig(x, 0, 1, 0, 1);
         due.is("round a closed lane", x.way(0, 3), 17);
         due.is("to a junction beside it", x.way(0, 2), 22);
-        int second = dig(x, 0, 0, 0, 1);
+        int second = Offices.dig(x, 0, 0, 0, 1);
         due.is("round two", x.way(0, 3), 20);
-        dig(x, 0, 5, 0, 1);
+        Offices.dig(x, 0, 5, 0, 1);
         due.is("no way over lanes that are not closed", x.way(0, 4), NONE);
         x.finish(first);
         x.finish(second);
         due.is("as before", x.way(0, 3), 15);
-        PermitWeave street = street();
+        PermitWeave street = Offices.street();
         due.is("the quicker of two lanes", street.way(1, 0), 4);
         street.lane(1, 0, 2);
         due.is("the quickest of three", street.way(1, 0), 2);
@@ -183,7 +140,7 @@ public final class PromisesTest {
     }
 
     private static void promise6IsClosed() {
-        PermitWeave x = street();
+        PermitWeave x = Offices.street();
         for (int wrong : new int[] {LOWEST, -1, 2, HIGHEST}) {
             due.throwsBounds("isClosed of lane " + wrong, () -> x.isClosed(wrong));
         }
@@ -192,7 +149,7 @@ public final class PromisesTest {
         x.begin(0);
         due.is("OPEN closes", x.isClosed(1), true);
         due.is("its lane alone", x.isClosed(0), false);
-        int other = dig(x, 1, 1, 5, 2);
+        int other = Offices.dig(x, 1, 1, 5, 2);
         x.finish(0);
         due.is("one of two is OPEN yet", x.isClosed(1), true);
         x.finish(other);
@@ -200,7 +157,7 @@ public final class PromisesTest {
     }
 
     private static void promise7Detour() {
-        PermitWeave x = town();
+        PermitWeave x = Offices.town();
         x.line(0, 3);
         x.stop(0, 3);
         x.stop(0, 4);
@@ -209,23 +166,23 @@ public final class PromisesTest {
             due.throwsBounds("detour of line " + wrong, () -> x.detour(wrong));
         }
         due.is("no lane is closed", x.detour(0), 0);
-        int first = dig(x, 0, 2, 0, 1);
+        int first = Offices.dig(x, 0, 2, 0, 1);
         due.is("one leg goes round", x.detour(0), 2);
-        dig(x, 0, 5, 0, 1);
+        Offices.dig(x, 0, 5, 0, 1);
         due.is("two legs have no way", x.detour(0), 122);
         x.finish(first);
         due.is("the first goes straight again", x.detour(0), 120);
-        PermitWeave wide = ring();
-        dig(wide, 0, 0, 0, 1);
+        PermitWeave wide = Offices.ring();
+        Offices.dig(wide, 0, 0, 0, 1);
         due.is("a way round may take more than 60 more", wide.detour(0), 89);
-        dig(wide, 0, 1, 0, 1);
+        Offices.dig(wide, 0, 1, 0, 1);
         due.is("60 more than over all lanes", wide.detour(0), 60);
         wide.lane(1, 0, 3);
         due.is("a lane that is added is a way round", wide.detour(0), 2);
     }
 
     private static void promise8Minutes() {
-        PermitWeave x = street();
+        PermitWeave x = Offices.street();
         for (int wrong : new int[] {LOWEST, -1, 1, HIGHEST}) {
             due.throwsBounds("minutes of line " + wrong, () -> x.minutes(wrong));
             due.throwsBounds("minutesAnew of line " + wrong, () -> x.minutesAnew(wrong));
@@ -233,7 +190,7 @@ public final class PromisesTest {
         due.is("none", x.minutes(0), 0);
         x.pass(3);
         due.is("no detour, no minutes", x.minutes(0), 0);
-        int permit = dig(x, 0, 0, 3, 5);
+        int permit = Offices.dig(x, 0, 0, 3, 5);
         due.is("no hour has passed", x.minutes(0), 0);
         x.pass(2);
         due.is("2 hours, 3 minutes, 10 passengers", x.minutes(0), 60);
@@ -245,41 +202,26 @@ public final class PromisesTest {
         due.is("the same anew", dear.minutesAnew(0), 1200L * 500 * 5000);
     }
 
-    /** A line of 500 passengers whose five legs take 240 minutes more each for 5000 hours. */
     private static PermitWeave dearest() {
-        PermitWeave x = new PermitWeave();
-        x.lane(0, 9, 1);
-        for (int k = 0; k < 8; k++) {
-            x.lane(k, k + 1, 30);
-        }
-        x.line(0, 500);
-        for (int k = 1; k < 6; k++) {
-            x.stop(0, k % 2 == 0 ? 0 : 9);
-        }
-        x.lane(8, 9, 1);
-        x.lane(0, 8, 30);
-        dig(x, 0, 0, 0, 1);
-        dig(x, 0, 10, 0, 1);
+        PermitWeave x = Offices.dearest();
         due.is("five legs of 240 more", x.detour(0), 1200);
-        for (int k = 0; k < 25; k++) {
-            x.pass(200);
-        }
+        Offices.passTo(x, 0, 5000);
         return x;
     }
 
     private static void promise9MinutesAnew() {
-        PermitWeave x = street();
+        PermitWeave x = Offices.street();
         x.line(1, 7);
         x.stop(1, 0);
         due.is("none", x.minutesAnew(0), 0);
-        int first = dig(x, 0, 0, 0, 2);
+        int first = Offices.dig(x, 0, 0, 0, 2);
         due.is("no hour has passed", x.minutesAnew(0), 0);
         x.pass(2);
-        int second = dig(x, 1, 1, 2, 5);
+        int second = Offices.dig(x, 1, 1, 2, 5);
         x.pass(3);
         x.finish(first);
         x.pass(1);
-        first = dig(x, 2, 0, 9, 1);
+        first = Offices.dig(x, 2, 0, 9, 1);
         x.finish(first);
         x.pass(4);
         x.finish(second);
@@ -288,7 +230,7 @@ public final class PromisesTest {
         due.is("the same anew", x.minutesAnew(0), 10 * (2 * 3 + 3 * 60));
         due.is("the other line anew", x.minutesAnew(1), 7 * (2 * 3 + 3 * 60));
         due.is("now the same again", x.minutesAnew(0), 1860);
-        dig(x, 0, 0, 50, 2);
+        Offices.dig(x, 0, 0, 50, 2);
         due.is("a dig begun now has no hour yet", x.minutesAnew(0), 1860);
         due.is("nor has it here", x.minutes(0), 1860);
         due.is("the way is that of now afterwards", x.way(0, 1), 7);
@@ -296,11 +238,11 @@ public final class PromisesTest {
     }
 
     private static void everyPermitIsBegunAndFinishedAlone() {
-        PermitWeave x = street();
+        PermitWeave x = Offices.street();
         long sum = 0;
         x.pass(1);
         for (int k = 0; k < 40; k++) {
-            int permit = dig(x, 0, 0, 4900, 1);
+            int permit = Offices.dig(x, 0, 0, 4900, 1);
             x.pass(2);
             x.finish(permit);
             x.pass(1);
@@ -311,7 +253,7 @@ public final class PromisesTest {
     }
 
     private static void promise10Apply() {
-        PermitWeave x = town();
+        PermitWeave x = Offices.town();
         for (int wrong : new int[] {LOWEST, -1, 6, HIGHEST}) {
             due.throwsBounds("applicant " + wrong, () -> x.apply(wrong, 0, 10, 1, NONE, false));
             due.throwsBounds("lane " + wrong, () -> x.apply(0, wrong, 10, 1, NONE, false));
@@ -338,7 +280,7 @@ public final class PromisesTest {
         due.throwsState("the 41st permit", () -> x.apply(0, 0, 10, 1, NONE, true));
         due.throwsArgument("the range comes before the count", () -> x.apply(0, 0, 9, 1, NONE, true));
         due.throwsBounds("the permit comes before the count", () -> x.apply(0, 0, 10, 1, 40, true));
-        PermitWeave last = town();
+        PermitWeave last = Offices.town();
         for (int k = 0; k < 25; k++) {
             last.pass(200);
         }
@@ -354,13 +296,13 @@ public final class PromisesTest {
     }
 
     private static void promise10Late() {
-        PermitWeave x = street();
+        PermitWeave x = Offices.street();
         x.pass(100);
         due.is("1 hour ahead", causeOf(x, 0, 0, 101, 1, NONE, false), PermitWeave.LATE);
         due.is("1 hour ahead, urgent", causeOf(x, 0, 0, 101, 1, NONE, true), NONE);
         due.is("2 hours ahead", causeOf(x, 0, 1, 102, 1, NONE, false), NONE);
         x.withdraw(2);
-        dig(x, 1, 0, 4900, 1);
+        Offices.dig(x, 1, 0, 4900, 1);
         x.complain(0);
         x.complain(0);
         due.is("notice of 2 points", causeOf(x, 1, 1, 107, 1, NONE, false), PermitWeave.LATE);
@@ -371,7 +313,7 @@ public final class PromisesTest {
     }
 
     private static void promise10Chain() {
-        PermitWeave x = town();
+        PermitWeave x = Offices.town();
         x.apply(0, 0, 10, 5, NONE, false);
         due.is("from before its end", causeOf(x, 0, 1, 14, 1, 0, false), PermitWeave.CHAIN);
         due.is("from before its end, urgent", causeOf(x, 0, 1, 14, 1, 0, true), PermitWeave.CHAIN);
@@ -393,7 +335,7 @@ public final class PromisesTest {
     }
 
     private static void promise10Long() {
-        PermitWeave x = town();
+        PermitWeave x = Offices.town();
         x.apply(0, 0, 20, 20, NONE, false);
         due.is("41 hours together", causeOf(x, 0, 0, 39, 22, NONE, false), PermitWeave.LONG);
         due.is("41 hours the other way", causeOf(x, 0, 0, 3, 37, NONE, false) , NONE);
@@ -401,7 +343,7 @@ public final class PromisesTest {
         due.is("40 hours with what it became", causeOf(x, 0, 0, 39, 4, NONE, false), NONE);
         due.is("urgent is never put together", causeOf(x, 0, 0, 39, 40, NONE, true), NONE);
         due.is("the hours", 100 * x.from(0) + x.end(0), 343);
-        PermitWeave seasons = town();
+        PermitWeave seasons = Offices.town();
         seasons.apply(0, 0, 520, 20, NONE, false);
         seasons.apply(0, 0, 510, 2, NONE, true);
         due.is("LONG comes before TWICE", causeOf(seasons, 0, 0, 490, 40, NONE, false), PermitWeave.LONG);
@@ -409,7 +351,7 @@ public final class PromisesTest {
     }
 
     private static void promise10Twice() {
-        PermitWeave x = town();
+        PermitWeave x = Offices.town();
         x.apply(0, 0, 100, 10, NONE, false);
         due.is("another opening in the season", causeOf(x, 0, 0, 110, 5, NONE, false), PermitWeave.TWICE);
         due.is("just before", causeOf(x, 0, 0, 95, 5, NONE, false), PermitWeave.TWICE);
@@ -425,10 +367,10 @@ public final class PromisesTest {
         due.is("DONE ones are there", causeOf(x, 0, 0, 120, 1, NONE, false), PermitWeave.TWICE);
         due.is("put together with DONE", causeOf(x, 0, 0, 109, 5, NONE, false), NONE);
         due.is("stretched into another season", causeOf(x, 0, 0, 498, 4, NONE, false), PermitWeave.TWICE);
-        PermitWeave urgent = town();
+        PermitWeave urgent = Offices.town();
         urgent.apply(0, 0, 600, 10, NONE, true);
         due.is("beside an urgent opening", causeOf(urgent, 0, 0, 605, 1, NONE, false), PermitWeave.TWICE);
-        PermitWeave before = town();
+        PermitWeave before = Offices.town();
         before.apply(0, 0, 501, 10, NONE, false);
         before.apply(0, 0, 490, 1, NONE, true);
         due.is("its own first hour would be 500", causeOf(before, 0, 0, 500, 4, NONE, false), NONE);
@@ -440,7 +382,7 @@ public final class PromisesTest {
     }
 
     private static void promise10Together() {
-        PermitWeave x = town();
+        PermitWeave x = Offices.town();
         x.apply(0, 0, 494, 4, NONE, false);
         x.apply(1, 0, 503, 4, NONE, false);
         x.apply(2, 0, 497, 7, NONE, false);
@@ -453,7 +395,7 @@ public final class PromisesTest {
         due.is("the lowest permit is VOID", x.together(2), 0b1100);
         due.is("now the second has the lowest permit", causeOf(x, 4, 0, 503, 2, NONE, false), NONE);
         due.is("together with that", x.together(4), 0b10010);
-        PermitWeave y = town();
+        PermitWeave y = Offices.town();
         y.apply(0, 0, 10, 5, NONE, true);
         due.is("urgent with urgent", causeOf(y, 0, 0, 10, 5, NONE, true), NONE);
         due.is("is not put together", y.together(1), 2);
@@ -469,7 +411,7 @@ public final class PromisesTest {
     }
 
     private static void promise11Withdraw() {
-        PermitWeave x = town();
+        PermitWeave x = Offices.town();
         x.apply(0, 0, 10, 5, NONE, false);
         for (int wrong : new int[] {LOWEST, -1, 1, HIGHEST}) {
             due.throwsBounds("withdraw " + wrong, () -> x.withdraw(wrong));
@@ -493,7 +435,7 @@ public final class PromisesTest {
         x.apply(0, 1, 600, 5, 5, false);
         due.is("the needed one is left", x.withdraw(6), 1);
         due.is("DONE as before", x.state(5), PermitWeave.DONE);
-        PermitWeave all = town();
+        PermitWeave all = Offices.town();
         all.apply(0, 0, 0, 1, NONE, true);
         for (int k = 1; k < 40; k++) {
             all.apply(0, 0, k, 1, k - 1, true);
@@ -503,7 +445,7 @@ public final class PromisesTest {
     }
 
     private static void promise12Begin() {
-        PermitWeave x = town();
+        PermitWeave x = Offices.town();
         x.apply(0, 0, 10, 5, NONE, false);
         for (int wrong : new int[] {LOWEST, -1, 1, HIGHEST}) {
             due.throwsBounds("begin " + wrong, () -> x.begin(wrong));
@@ -530,7 +472,7 @@ public final class PromisesTest {
     }
 
     private static void promise13Finish() {
-        PermitWeave x = street();
+        PermitWeave x = Offices.street();
         x.apply(0, 0, 0, 5, NONE, true);
         for (int wrong : new int[] {LOWEST, -1, 1, HIGHEST}) {
             due.throwsBounds("finish " + wrong, () -> x.finish(wrong));
@@ -547,12 +489,12 @@ public final class PromisesTest {
         due.throwsState("finish a VOID one", () -> x.finish(1));
         x.apply(0, 0, 8, 5, NONE, false);
         due.throwsState("finish a REFUSED one", () -> x.finish(2));
-        due.is("no hour, no fine", x.finish(dig(x, 0, 0, 100, 1)), 0);
+        due.is("no hour, no fine", x.finish(Offices.dig(x, 0, 0, 100, 1)), 0);
         due.is("a dig that is DONE is fined no more", x.pass(1) + x.fine(0), 128);
     }
 
     private static void promises14To17StateCauseFromEnd() {
-        PermitWeave x = town();
+        PermitWeave x = Offices.town();
         x.apply(0, 0, 10, 5, NONE, false);
         for (int wrong : new int[] {LOWEST, -1, 1, HIGHEST}) {
             due.throwsBounds("state " + wrong, () -> x.state(wrong));
@@ -590,7 +532,7 @@ public final class PromisesTest {
     }
 
     private static void promise18Together() {
-        PermitWeave x = town();
+        PermitWeave x = Offices.town();
         x.apply(0, 0, 10, 5, NONE, false);
         x.apply(0, 0, 12, 8, NONE, false);
         x.apply(0, 0, 30, 8, NONE, false);
@@ -614,7 +556,7 @@ public final class PromisesTest {
     }
 
     private static void promise19Openings() {
-        PermitWeave x = street();
+        PermitWeave x = Offices.street();
         for (int wrong : new int[] {LOWEST, -1, 2, HIGHEST}) {
             due.throwsBounds("openings of lane " + wrong, () -> x.openings(wrong, 0));
             due.throwsBounds("the lane comes before the season", () -> x.openings(wrong, -1));
@@ -645,7 +587,7 @@ public final class PromisesTest {
     }
 
     private static void promise20Fee() {
-        PermitWeave x = town();
+        PermitWeave x = Offices.town();
         x.apply(0, 0, 10, 1, NONE, false);
         due.is("one hour", x.fee(0), 1100);
         x.apply(0, 0, 10, 9, NONE, false);
@@ -691,10 +633,10 @@ public final class PromisesTest {
     }
 
     private static void digsBesideTheirHours() {
-        PermitWeave x = street();
+        PermitWeave x = Offices.street();
         x.line(1, 20);
         x.stop(1, 0);
-        int permit = dig(x, 3, 0, 2, 3);
+        int permit = Offices.dig(x, 3, 0, 2, 3);
         x.pass(2);
         due.is("2 hours early, 30 passengers, 3 minutes", x.fine(permit), 2 * 2 * 90);
         due.is("a point for each hour", x.points(3), 2);
@@ -704,11 +646,11 @@ public final class PromisesTest {
         due.is("an hour late", x.fine(permit), 540);
         due.is("and a point", x.points(3), 3);
         due.is("others get none", x.points(2), 0);
-        dig(x, 3, 0, 100, 3);
+        Offices.dig(x, 3, 0, 100, 3);
         x.pass(10);
         due.is("another is OPEN on its lane", x.fine(permit), 540);
         x.finish(permit);
-        int second = dig(x, 3, 1, 100, 3);
+        int second = Offices.dig(x, 3, 1, 100, 3);
         x.pass(1);
         due.is("what one of two lanes costs, the way over the other gone", x.fine(second), 2 * 57 * 30);
         due.is("and the other", x.fine(1), 2 * 60 * 30);
@@ -716,10 +658,10 @@ public final class PromisesTest {
     }
 
     private static void digsThatCostNothing() {
-        PermitWeave x = ring();
-        int straight = dig(x, 0, 0, 50, 1);
+        PermitWeave x = Offices.ring();
+        int straight = Offices.dig(x, 0, 0, 50, 1);
         due.is("round, 89 more", x.detour(0), 89);
-        int round = dig(x, 1, 2, 50, 1);
+        int round = Offices.dig(x, 1, 2, 50, 1);
         x.pass(1);
         due.is("the second dig costs -29: no fine", x.fine(round), 0);
         due.is("and no point", x.points(1), 0);
@@ -730,7 +672,7 @@ public final class PromisesTest {
         empty.lane(0, 1, 1);
         empty.line(0, 0);
         empty.stop(0, 1);
-        dig(empty, 0, 0, 50, 1);
+        Offices.dig(empty, 0, 0, 50, 1);
         empty.pass(1);
         due.is("no passengers, no fine", empty.fine(0) + empty.points(0) + empty.minutes(0), 0);
         due.is("a detour all the same", empty.complain(0), 1);
@@ -739,33 +681,33 @@ public final class PromisesTest {
         least.lane(0, 1, 2);
         least.line(0, 1);
         least.stop(0, 1);
-        dig(least, 0, 0, 50, 1);
+        Offices.dig(least, 0, 0, 50, 1);
         least.pass(1);
         due.is("a single minute is above 0", least.fine(0) + 10 * least.points(0), 12);
         linesAreWeighedTogether();
     }
 
     private static void linesAreWeighedTogether() {
-        PermitWeave x = ring();
+        PermitWeave x = Offices.ring();
         x.line(2, 2);
         x.stop(1, 3);
-        dig(x, 0, 0, 50, 1);
-        int round = dig(x, 1, 2, 50, 1);
+        Offices.dig(x, 0, 0, 50, 1);
+        int round = Offices.dig(x, 1, 2, 50, 1);
         x.pass(1);
         due.is("-290 and 120 together are below 0", x.fine(round) + x.points(1), 0);
-        x = ring();
+        x = Offices.ring();
         x.line(2, 5);
         x.stop(1, 3);
-        dig(x, 0, 0, 50, 1);
-        round = dig(x, 1, 2, 50, 1);
+        Offices.dig(x, 0, 0, 50, 1);
+        round = Offices.dig(x, 1, 2, 50, 1);
         x.pass(1);
         due.is("-290 and 300 together are 10", x.fine(round), 20);
         due.is("and a point", x.points(1), 1);
     }
 
     private static void pointsAreForgiven() {
-        PermitWeave x = street();
-        int permit = dig(x, 0, 0, 4900, 1);
+        PermitWeave x = Offices.street();
+        int permit = Offices.dig(x, 0, 0, 4900, 1);
         x.pass(99);
         due.is("99 hours", x.points(0), 99);
         x.pass(1);
@@ -777,7 +719,7 @@ public final class PromisesTest {
         due.is("200 hours", x.points(0), 98);
         due.is("not below 0", x.points(1), 0);
         x.complain(0);
-        dig(x, 1, 0, 4900, 1);
+        Offices.dig(x, 1, 0, 4900, 1);
         x.complain(0);
         x.finish(1);
         due.is("one point", x.points(1), 1);
@@ -790,7 +732,7 @@ public final class PromisesTest {
     }
 
     private static void openingsGrowUnderADig() {
-        PermitWeave x = street();
+        PermitWeave x = Offices.street();
         int permit = x.apply(0, 0, 10, 2, NONE, false);
         x.begin(permit);
         x.pass(9);
@@ -804,7 +746,7 @@ public final class PromisesTest {
         due.is("no hour in common", x.state(2), PermitWeave.REFUSED);
         x.pass(1);
         due.is("two hours within, one beside", x.fine(permit), 10 * 60 + 60);
-        PermitWeave y = street();
+        PermitWeave y = Offices.street();
         y.apply(0, 0, 10, 2, NONE, false);
         y.apply(1, 0, 11, 9, NONE, false);
         y.begin(0);
@@ -816,7 +758,7 @@ public final class PromisesTest {
     }
 
     private static void promise22Complain() {
-        PermitWeave x = town();
+        PermitWeave x = Offices.town();
         x.line(1, 0);
         x.stop(0, 3);
         x.line(0, 5);
@@ -825,23 +767,23 @@ public final class PromisesTest {
             due.throwsBounds("complain of line " + wrong, () -> x.complain(wrong));
         }
         due.is("about nothing", x.complain(0), 0);
-        dig(x, 2, 1, 0, 10);
+        Offices.dig(x, 2, 1, 0, 10);
         due.is("about a dig in its hours", x.complain(0), 1);
         due.is("a point", x.points(2), 1);
         due.is("the other line has no reason", x.complain(1), 0);
-        dig(x, 2, 4, 0, 10);
+        Offices.dig(x, 2, 4, 0, 10);
         due.is("one for both permits", x.complain(0), 1);
         due.is("one point more", x.points(2), 2);
-        dig(x, 3, 0, 0, 10);
+        Offices.dig(x, 3, 0, 0, 10);
         due.is("two applicants", x.complain(0), 2);
         due.is("the other's point", x.points(3), 1);
         due.is("a dig on the way round is blamed as well", x.complain(1), 2);
         due.is("its points", x.points(2) + 10 * x.points(3), 24);
         x.apply(5, 3, 100, 1, NONE, false);
         due.is("GRANTED ones are not blamed", x.complain(0) + 10 * x.points(5), 2);
-        PermitWeave street = street();
-        dig(street, 3, 0, 0, 10);
-        dig(street, 4, 0, 0, 10);
+        PermitWeave street = Offices.street();
+        Offices.dig(street, 3, 0, 0, 10);
+        Offices.dig(street, 4, 0, 0, 10);
         due.is("two on a lane cost 0 each", street.complain(0), 0);
         street.finish(0);
         due.is("the one that is left", street.complain(0), 1);
@@ -849,13 +791,13 @@ public final class PromisesTest {
     }
 
     private static void promises23To25PointsFineFines() {
-        PermitWeave x = street();
+        PermitWeave x = Offices.street();
         for (int wrong : new int[] {LOWEST, -1, 6, HIGHEST}) {
             due.throwsBounds("points of applicant " + wrong, () -> x.points(wrong));
             due.throwsBounds("fines of applicant " + wrong, () -> x.fines(wrong));
         }
         due.throwsBounds("fine of no permit", () -> x.fine(0));
-        int first = dig(x, 5, 0, 10, 1);
+        int first = Offices.dig(x, 5, 0, 10, 1);
         x.apply(5, 1, 10, 1, NONE, false);
         x.pass(1);
         due.is("fine of an OPEN one so far", x.fine(first), 60);
@@ -864,8 +806,8 @@ public final class PromisesTest {
         x.begin(1);
         x.pass(2);
         due.is("a dig on the slower lane costs nothing", x.fines(5), 60);
-        int third = dig(x, 5, 0, 10, 1);
-        int other = dig(x, 0, 0, 10, 1);
+        int third = Offices.dig(x, 5, 0, 10, 1);
+        int other = Offices.dig(x, 0, 0, 10, 1);
         x.finish(other);
         x.pass(1);
         due.is("no way: 60 more for 10, for each", x.fine(third), 1200);
@@ -875,30 +817,6 @@ public final class PromisesTest {
         due.is("points of all permits", x.points(5), 3);
         PermitWeave dear = dearest();
         due.is("a fine above what an int holds", dear.fines(0), dear.fine(0) + dear.fine(1));
-    }
-
-    private static void thrownCallsChangeNothing() {
-        PermitWeave x = street();
-        x.apply(0, 0, 10, 5, NONE, false);
-        x.apply(1, 1, 15, 5, 0, false);
-        String before = Views.of(x, 2, 1, 2);
-        Runnable[] wrong = {
-            () -> x.lane(0, 0, 1), () -> x.lane(0, 1, 0), () -> x.lane(0, 10, 1), () -> x.line(0, 501),
-            () -> x.line(10, 5), () -> x.stop(0, 1), () -> x.stop(0, 9), () -> x.stop(1, 0),
-            () -> x.apply(0, 0, -1, 1, NONE, true), () -> x.apply(0, 0, 10, 41, NONE, true),
-            () -> x.apply(0, 0, 10, 1, 2, true), () -> x.apply(6, 0, 10, 1, NONE, true),
-            () -> x.withdraw(2), () -> x.begin(1), () -> x.finish(0), () -> x.pass(0), () -> x.pass(201),
-            () -> x.complain(1), () -> x.openings(0, 11)
-        };
-        for (int k = 0; k < wrong.length; k++) {
-            due.is("the wrong call " + k + " throws", Due.thrownBy(wrong[k]).endsWith("Exception"), true);
-            due.is("the wrong call " + k + " changes nothing", Views.of(x, 2, 1, 2), before);
-        }
-        due.is("the next lane", x.lane(0, 1, 1), 2);
-        due.is("the next line", x.line(0, 1), 1);
-        due.is("the next stop", x.stop(0, 0), 3);
-        due.is("the next permit", x.apply(0, 0, 10, 1, NONE, true), 2);
-        due.is("the next hour", x.pass(1), 1);
     }
 
     public static void main(String[] args) {
@@ -927,7 +845,6 @@ public final class PromisesTest {
         promise21Pass();
         promise22Complain();
         promises23To25PointsFineFines();
-        thrownCallsChangeNothing();
         due.end();
     }
 }
