@@ -331,7 +331,7 @@ final class DigTermSentences {
             Offices.dig(x, 0, 0, 0, 40);
             x.complain(0);
             x.finish(0);
-            Offices.dig(x, 1, 0, 0, 40);
+            Offices.dig(x, 5, 0, 0, 40);
             x.complain(0);
             x.complain(0);
             x.finish(1);
@@ -341,8 +341,8 @@ final class DigTermSentences {
             for (int k = 0; k < hours.length; k++) {
                 int now = x.pass(hours[k]);
                 s.is("one point, at " + now, x.points(0), first[k]);
-                s.is("two points, at " + now, x.points(1), second[k]);
-                s.is("no points, at " + now, x.points(2), 0);
+                s.is("two points, at " + now, x.points(5), second[k]);
+                s.is("no points, at " + now, x.points(1), 0);
             }
             PermitWeave dug = Offices.street();
             Offices.passTo(dug, 0, 99);

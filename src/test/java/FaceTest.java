@@ -51,11 +51,14 @@ public final class FaceTest {
 
     /** What LANGUAGE.md leaves out, as it would stand in the text. */
     private static final String[] RULED_OUT = {
-        "->", "::", "\\bcatch\\b", "\\bfinally\\b", "\\bsynchronized\\b", "\\bassert\\b", "Exact\\b", "\\bSystem\\.out\\b",
-        "\\bRandom\\b", "\\bThread\\b", "\\bcurrentTimeMillis\\b", "\\bnanoTime\\b", "\\bequals\\b", "\\bhashCode\\b",
-        "\\btoString\\b", "\\bOptional\\b", "\\bStream\\b", "\\bMap\\b", "\\bSet\\b", "\\bpackage\\b", "%\\s*0\\b",
+        "->", "::", "\\bfinally\\b", "\\bsynchronized\\b", "\\bassert\\b", "Exact\\b", "\\bSystem\\.out\\b",
+        "\\bRandom\\b", "\\bThread\\b", "\\bcurrentTimeMillis\\b", "\\bnanoTime\\b", "\\bboolean equals\\b", "\\bhashCode\\b",
+        "\\bString toString\\b", "\\bOptional\\b", "\\bStream\\b", "\\bMap\\b", "\\bSet\\b", "\\bpackage\\b", "%\\s*0\\b",
         "\\bstatic\\s*\\{", "\\bObject\\b", "\\bvar\\b", "[^\\x00-\\x7f]", "\\+\\s*\"", "\"\\s*\\+",
     };
+
+    private static final Set<String> IMPORTS = Set.of("import java.util.ArrayList;", "import java.util.Arrays;",
+            "import java.util.Iterator;", "import java.util.List;", "import java.util.NoSuchElementException;");
 
     private static void publicFace() {
         Class<?> face = PermitWeave.class;
@@ -136,7 +139,7 @@ public final class FaceTest {
             due.is("the text has " + ruledOut, Pattern.compile(ruledOut).matcher(text).find(), false);
         }
         for (String line : text.split("\n")) {
-            due.is("import: " + line, !line.startsWith("import ") || line.equals("import java.util.ArrayList;"), true);
+            due.is("import: " + line, !line.startsWith("import ") || IMPORTS.contains(line), true);
             due.is("a line's length: " + line, line.length() <= 120, true);
         }
     }

@@ -91,12 +91,7 @@ final class HourSentences {
             s.is("no hour has passed", x.pass(1), 1);
         });
         s.test("`line`: its number", () -> {
-            PermitWeave x = Offices.street();
-            for (int line = 1; line < 5; line++) {
-                x.line(0, 1);
-            }
-            x.line(1, 0);
-            x.stop(5, 0);
+            PermitWeave x = Offices.streetOfSixLines();
             Offices.dig(x, 4, 0, 0, 40);
             s.is("the first", x.complain(0), 1);
             s.is("one that is not hurt", x.complain(1), 0);
@@ -115,11 +110,8 @@ final class HourSentences {
                 s.is("points(" + applicant + ")", x.points(applicant), 6 - applicant);
             }
         });
-        s.test("Throws `IndexOutOfBoundsException` if there is no such line", () -> {
-            s.refuses(BOUNDS, "line of none", Offices::town, x -> x.complain(0));
-            s.refusesEach(BOUNDS, "line", Sentences.beside(0, 1), Offices::busy, (x, wrong) -> x.complain(wrong));
-            s.refusesEach(BOUNDS, "line", Sentences.beside(0, 5), Offices::full, (x, wrong) -> x.complain(wrong));
-        });
+        s.test("Throws `IndexOutOfBoundsException` if there is no such line", () ->
+            s.refusesLines("complain", (x, wrong) -> x.complain(wrong)));
     }
 
     /** A way over seven junctions, each time over a lane of 1 minute, or one of more, and a line along it. */
@@ -201,11 +193,8 @@ final class HourSentences {
             Offices.passTo(x, 0, 5000);
             s.is("above what an int holds", x.fine(0), 4999L * 2 * 500 * 5 * 240);
         });
-        s.test("Throws `IndexOutOfBoundsException` if there is no such permit", () -> {
-            s.refuses(BOUNDS, "permit of none", Offices::town, x -> x.fine(0));
-            s.refusesEach(BOUNDS, "permit", Sentences.beside(0, 7), Offices::busy, (x, wrong) -> x.fine(wrong));
-            s.refusesEach(BOUNDS, "permit", Sentences.beside(0, 39), Offices::full, (x, wrong) -> x.fine(wrong));
-        });
+        s.test("Throws `IndexOutOfBoundsException` if there is no such permit", () ->
+            s.refusesPermits("fine", (x, wrong) -> x.fine(wrong)));
     }
 
     private void fines() {

@@ -55,6 +55,14 @@ final class LaneTermSentences {
             s.is("over three", x.way(0, 3), 15);
             s.is("over four", x.way(0, 4), 16);
             s.is("to where none leads", x.way(0, 5), NONE);
+            for (int middle = 0; middle < 10; middle++) {
+                PermitWeave y = new PermitWeave();
+                int one = (middle + 3) % 10;
+                int other = (middle + 7) % 10;
+                y.lane(one, middle, 4);
+                y.lane(other, middle, 9);
+                s.is("over the junction " + middle, y.way(one, other), 13);
+            }
         });
         s.test("The shortest way is one with the fewest minutes.", () -> {
             PermitWeave x = new PermitWeave();

@@ -34,6 +34,17 @@ final class Offices {
         return x;
     }
 
+    /** The street with four lines of one stop more, and a last one back over it, without passengers. */
+    static PermitWeave streetOfSixLines() {
+        PermitWeave x = street();
+        for (int line = 1; line < 5; line++) {
+            x.line(0, 1);
+        }
+        x.line(1, 0);
+        x.stop(5, 0);
+        return x;
+    }
+
     /** A lane of 1 minute with a line of 10 passengers over it, and 90 minutes round it. */
     static PermitWeave ring() {
         return ring(10);
@@ -99,7 +110,7 @@ final class Offices {
     }
 
     /**
-     * At the hour 5, with three lanes and two lines: permit 0 is DONE, 1 and 7 are OPEN, 2 and 3 GRANTED and put
+     * At the hour 6, with three lanes and two lines: permit 0 is DONE, 1 and 7 are OPEN, 2 and 3 GRANTED and put
      * together, 4 REFUSED, 5 and 6 VOID; and there are points and fines.
      */
     static PermitWeave busy() {
@@ -118,6 +129,7 @@ final class Offices {
         x.begin(0);
         x.pass(3);
         x.finish(0);
+        x.pass(1);
         x.begin(1);
         dig(x, 4, 0, 50, 1);
         x.pass(2);

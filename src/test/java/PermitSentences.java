@@ -1,4 +1,3 @@
-import java.util.function.ObjIntConsumer;
 import java.util.function.Supplier;
 
 /** Promises 10 to 20: permits. */
@@ -48,13 +47,6 @@ final class PermitSentences {
         PermitWeave x = Offices.town();
         x.apply(0, 0, 10, 5, NONE, false);
         return x;
-    }
-
-    private void refusesPermits(String call, ObjIntConsumer<PermitWeave> asked) {
-        s.refuses(BOUNDS, call + " of none", Offices::town, x -> asked.accept(x, 0));
-        s.refusesEach(BOUNDS, call + " of permit", Sentences.beside(0, 0), PermitSentences::townOfOne, asked);
-        s.refusesEach(BOUNDS, call + " of permit, busy", Sentences.beside(0, 7), Offices::busy, asked);
-        s.refusesEach(BOUNDS, call + " of permit, full", Sentences.beside(0, 39), Offices::full, asked);
     }
 
     private void apply() {
@@ -155,8 +147,8 @@ final class PermitSentences {
             s.refuses(BOUNDS, "needs 0 of none", Offices::town, x -> x.apply(0, 0, 10, 1, 0, false));
             s.refusesEach(BOUNDS, "applicant, and 0 hours", NO_APPLICANTS, Offices::busy,
                     (x, wrong) -> x.apply(wrong, 0, 10, 0, NONE, false));
-            s.refusesEach(BOUNDS, "lane, and from an hour gone by", Sentences.beside(0, 2), Offices::busy,
-                    (x, wrong) -> x.apply(0, wrong, 4, 1, NONE, false));
+            s.refusesEach(BOUNDS, "lane, and an hour gone by", Sentences.beside(0, 2), Offices::busy,
+                    (x, wrong) -> x.apply(0, wrong, 5, 1, NONE, false));
             s.refusesEach(BOUNDS, "needs, and from 4901", Sentences.beside(-1, 7), Offices::busy,
                     (x, wrong) -> x.apply(0, 0, 4901, 1, wrong, true));
             s.refusesEach(BOUNDS, "applicant, the 41st", NO_APPLICANTS, Offices::full,
@@ -257,7 +249,7 @@ final class PermitSentences {
             s.is("one is VOID already", x.withdraw(37), 2);
         });
         s.test("Throws `IndexOutOfBoundsException` if there is no such permit", () ->
-            refusesPermits("withdraw", (x, wrong) -> x.withdraw(wrong)));
+            s.refusesPermits("withdraw", (x, wrong) -> x.withdraw(wrong)));
         s.test("Throws `IllegalStateException` if it is not GRANTED", () -> {
             s.refuses(STATE, "DONE", Offices::busy, x -> x.withdraw(0));
             s.refuses(STATE, "OPEN", Offices::busy, x -> x.withdraw(1));
@@ -301,15 +293,15 @@ final class PermitSentences {
             s.is("by the hours of its opening", grown.begin(0), 6);
         });
         s.test("Throws `IndexOutOfBoundsException` if there is no such permit", () ->
-            refusesPermits("begin", (x, wrong) -> x.begin(wrong)));
+            s.refusesPermits("begin", (x, wrong) -> x.begin(wrong)));
         s.test("Throws `IllegalStateException` if it is not GRANTED, or the one that it needs is not DONE", () -> {
             s.refuses(STATE, "DONE", Offices::busy, x -> x.begin(0));
             s.refuses(STATE, "OPEN", Offices::busy, x -> x.begin(1));
             s.refuses(STATE, "REFUSED", Offices::busy, x -> x.begin(4));
             s.refuses(STATE, "VOID", Offices::busy, x -> x.begin(5));
             s.refuses(STATE, "VOID by another", Offices::busy, x -> x.begin(6));
-            s.is("GRANTED", Offices.busy().begin(2), 35);
-            s.is("GRANTED, the other is DONE", Offices.busy().begin(3), 35);
+            s.is("GRANTED", Offices.busy().begin(2), 34);
+            s.is("GRANTED, the other is DONE", Offices.busy().begin(3), 34);
             s.refuses(STATE, "the other is GRANTED", PermitSentences::fortyInAChain, x -> x.begin(1));
             s.refuses(STATE, "the other is OPEN", PermitSentences::chainBegun, x -> x.begin(1));
             PermitWeave x = chainBegun();
@@ -359,7 +351,7 @@ final class PermitSentences {
             s.is("above what an int holds", x.finish(0), 4999L * 2 * 500 * 5 * 240);
         });
         s.test("Throws `IndexOutOfBoundsException` if there is no such permit", () ->
-            refusesPermits("finish", (x, wrong) -> x.finish(wrong)));
+            s.refusesPermits("finish", (x, wrong) -> x.finish(wrong)));
         s.test("Throws `IllegalStateException` if it is not OPEN", () -> {
             s.refuses(STATE, "DONE", Offices::busy, x -> x.finish(0));
             s.refuses(STATE, "GRANTED", Offices::busy, x -> x.finish(2));
@@ -391,7 +383,7 @@ final class PermitSentences {
             }
         });
         s.test("Throws `IndexOutOfBoundsException` if there is no such permit", () ->
-            refusesPermits("state", (x, wrong) -> x.state(wrong)));
+            s.refusesPermits("state", (x, wrong) -> x.state(wrong)));
     }
 
     private void cause() {
@@ -417,7 +409,7 @@ final class PermitSentences {
             }
         });
         s.test("Throws `IndexOutOfBoundsException` if there is no such permit", () ->
-            refusesPermits("cause", (x, wrong) -> x.cause(wrong)));
+            s.refusesPermits("cause", (x, wrong) -> x.cause(wrong)));
     }
 
     /** The permits 0 and 1 are put together from 6 to 20; 2 and 3 are REFUSED, of lanes 0 and 1. */
@@ -450,7 +442,7 @@ final class PermitSentences {
             s.is("VOID, that of its opening now", x.from(1), 4);
         });
         s.test("Throws `IndexOutOfBoundsException` if there is no such permit", () ->
-            refusesPermits("from", (x, wrong) -> x.from(wrong)));
+            s.refusesPermits("from", (x, wrong) -> x.from(wrong)));
     }
 
     private void end() {
@@ -474,7 +466,7 @@ final class PermitSentences {
             s.is("VOID, that of its opening now", x.end(1), 24);
         });
         s.test("Throws `IndexOutOfBoundsException` if there is no such permit", () ->
-            refusesPermits("end", (x, wrong) -> x.end(wrong)));
+            s.refusesPermits("end", (x, wrong) -> x.end(wrong)));
     }
 
     private static PermitWeave fortyTogether() {
@@ -519,7 +511,7 @@ final class PermitSentences {
             s.is("38 of 40", z.together(20), (1L << 39) - 2);
         });
         s.test("Throws `IndexOutOfBoundsException` if there is no such permit", () ->
-            refusesPermits("together", (x, wrong) -> x.together(wrong)));
+            s.refusesPermits("together", (x, wrong) -> x.together(wrong)));
     }
 
     private void openings() {
@@ -607,6 +599,6 @@ final class PermitSentences {
             s.is("VOID and alone", y.fee(0), 0);
         });
         s.test("Throws `IndexOutOfBoundsException` if there is no such permit", () ->
-            refusesPermits("fee", (x, wrong) -> x.fee(wrong)));
+            s.refusesPermits("fee", (x, wrong) -> x.fee(wrong)));
     }
 }

@@ -387,9 +387,12 @@ final class PermitTermSentences {
             open.begin(0);
             decided("an OPEN one", open, plain(open, 0, 10, 5), NONE);
             s.is("put together with it", open.together(1), 0b11);
-            open.finish(0);
-            decided("a DONE one", open, plain(open, 0, 27, 5), NONE);
-            s.is("put together with it", open.together(2), 0b111);
+            PermitWeave done = townWith(8, 20);
+            done.begin(0);
+            done.finish(0);
+            decided("a DONE one", done, plain(done, 0, 27, 5), NONE);
+            s.is("put together with it", done.together(1), 0b11);
+            hoursAre("of both", done, 0, 8, 32);
         });
     }
 

@@ -1,5 +1,3 @@
-import java.util.function.ObjIntConsumer;
-
 /** Promises 1 to 9: a new object, lanes and lines. */
 final class RoadSentences {
     private static final int NONE = PermitWeave.NONE;
@@ -437,12 +435,7 @@ final class RoadSentences {
             s.is("no lane is closed any more", x.detour(0), 0);
         });
         s.test("`line`: its number", () -> {
-            PermitWeave x = Offices.street();
-            for (int line = 1; line < 5; line++) {
-                x.line(0, 1);
-            }
-            x.line(1, 0);
-            x.stop(5, 0);
+            PermitWeave x = Offices.streetOfSixLines();
             x.stop(5, 1);
             Offices.dig(x, 0, 0, 0, 1);
             s.is("the first line", x.detour(0), 3);
@@ -458,14 +451,7 @@ final class RoadSentences {
             s.is("31 rather than 1, five times", x.detour(0), 5 * 30);
         });
         s.test("Throws `IndexOutOfBoundsException` if there is no such line", () ->
-            refusesLines("detour", (x, wrong) -> x.detour(wrong)));
-    }
-
-    private void refusesLines(String call, ObjIntConsumer<PermitWeave> asked) {
-        s.refuses(BOUNDS, call + " of none", Offices::town, x -> asked.accept(x, 0));
-        s.refusesEach(BOUNDS, call + " of line", NO_LINES_OF_THE_STREET, Offices::street, asked);
-        s.refusesEach(BOUNDS, call + " of line, busy", Sentences.beside(0, 1), Offices::busy, asked);
-        s.refusesEach(BOUNDS, call + " of line, full", Sentences.beside(0, 5), Offices::full, asked);
+            s.refusesLines("detour", (x, wrong) -> x.detour(wrong)));
     }
 
     private void minutes() {
@@ -497,7 +483,7 @@ final class RoadSentences {
             s.is("of a line without passengers", emptyStreetDug().minutes(0), 0);
         });
         s.test("Throws `IndexOutOfBoundsException` if there is no such line", () ->
-            refusesLines("minutes", (x, wrong) -> x.minutes(wrong)));
+            s.refusesLines("minutes", (x, wrong) -> x.minutes(wrong)));
     }
 
     private static PermitWeave emptyStreetDug() {
@@ -543,7 +529,7 @@ final class RoadSentences {
             s.is("of a line without passengers", emptyStreetDug().minutesAnew(0), 0);
         });
         s.test("Throws `IndexOutOfBoundsException` if there is no such line", () ->
-            refusesLines("minutesAnew", (x, wrong) -> x.minutesAnew(wrong)));
+            s.refusesLines("minutesAnew", (x, wrong) -> x.minutesAnew(wrong)));
     }
 
     /** As many begins and finishes, each in an hour of its own, as there can be. */

@@ -4,6 +4,7 @@ import java.lang.management.ManagementFactory;
 /** All calls of a run live in one room: the dearest calls must not make objects, nor a whole object many. */
 public final class RoomTest {
     private static final long MOST_BYTES_OF_AN_OBJECT = 16 * 1024;
+    /** As many as an object has calls for, when it is full. */
     private static final int ROUNDS = 44;
     private static final Due due = new Due("RoomTest");
 

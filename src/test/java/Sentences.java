@@ -84,6 +84,20 @@ final class Sentences {
         }
     }
 
+    /** Of no permit yet, beside the numbers of eight, and beside those of all that there can be. */
+    void refusesPermits(String call, ObjIntConsumer<PermitWeave> asked) {
+        refuses(BOUNDS, call + " of none", Offices::town, x -> asked.accept(x, 0));
+        refusesEach(BOUNDS, call + " of permit", beside(0, 7), Offices::busy, asked);
+        refusesEach(BOUNDS, call + " of permit, full", beside(0, 39), Offices::full, asked);
+    }
+
+    void refusesLines(String call, ObjIntConsumer<PermitWeave> asked) {
+        refuses(BOUNDS, call + " of none", Offices::town, x -> asked.accept(x, 0));
+        refusesEach(BOUNDS, call + " of line, of one", beside(0, 0), Offices::street, asked);
+        refusesEach(BOUNDS, call + " of line, of two", beside(0, 1), Offices::busy, asked);
+        refusesEach(BOUNDS, call + " of line, full", beside(0, 5), Offices::full, asked);
+    }
+
     /** The first numbers beyond both ends of a range, and the last that there are. */
     static int[] beside(int least, int most) {
         return new int[] {Integer.MIN_VALUE, least - 1, most + 1, Integer.MAX_VALUE};

@@ -90,7 +90,7 @@ final class TermSentences {
             s.refuses(BOUNDS, "minutes", busy, x -> x.minutes(2));
             s.refuses(BOUNDS, "minutesAnew", busy, x -> x.minutesAnew(2));
             s.refuses(BOUNDS, "apply with no need", busy, x -> x.apply(0, 0, 600, 1, 8, true));
-            s.refuses(ARGUMENT, "apply for an hour gone by", busy, x -> x.apply(0, 0, 4, 1, NONE, true));
+            s.refuses(ARGUMENT, "apply for an hour gone by", busy, x -> x.apply(0, 0, 5, 1, NONE, true));
             s.refuses(STATE, "apply for the 41st", Offices::full, x -> x.apply(0, 0, 4900, 1, NONE, true));
             s.refuses(STATE, "withdraw", busy, x -> x.withdraw(7));
             s.refuses(STATE, "begin", busy, x -> x.begin(7));

@@ -1,3 +1,5 @@
+import java.util.function.IntConsumer;
+
 /**
  * All that can be asked of an object, as texts. An object answers 512 calls only, so there are several views, and
  * each leaves 150 calls for what was done before.
@@ -10,6 +12,10 @@ final class Views {
         view.append(answer).append(' ');
     }
 
+    private static boolean isThere(IntConsumer asked, int number) {
+        return Due.thrownBy(() -> asked.accept(number)).equals("nothing");
+    }
+
     static String ofRoads(PermitWeave x) {
         StringBuilder view = new StringBuilder();
         for (int k = 0; k < 90; k++) {
@@ -19,7 +25,7 @@ final class Views {
                 put(view, Due.answer(() -> x.way(from, to)));
             }
         }
-        for (int k = 0; k < 24; k++) {
+        for (int k = 0; k < 24 && isThere(x::isClosed, k); k++) {
             int lane = k;
             put(view, "\nlane " + lane + ": " + Due.answer(() -> x.isClosed(lane) ? 1 : 0));
             for (int season = 0; season <= 10; season++) {
@@ -27,18 +33,13 @@ final class Views {
                 put(view, Due.answer(() -> x.openings(lane, asked)));
             }
         }
-        for (int k = 0; k < 6; k++) {
-            int line = k;
-            put(view, "\nline " + line + ": " + Due.answer(() -> x.detour(line)));
-            put(view, Due.answer(() -> x.minutes(line)));
-            put(view, Due.answer(() -> x.minutesAnew(line)));
-        }
+        put(view, linesOf(x));
         return view.toString();
     }
 
     static String ofPermits(PermitWeave x) {
         StringBuilder view = new StringBuilder();
-        for (int k = 0; k < 40; k++) {
+        for (int k = 0; k < 40 && isThere(x::state, k); k++) {
             int permit = k;
             put(view, "\npermit " + permit + ": " + Due.answer(() -> x.state(permit)));
             put(view, Due.answer(() -> x.cause(permit)));
@@ -65,17 +66,17 @@ final class Views {
         put(view, Due.answer(() -> x.lane(0, 1, 1)));
         put(view, Due.answer(() -> x.line(0, 1)));
         put(view, Due.answer(() -> x.apply(0, 0, 4900, 1, PermitWeave.NONE, true)));
-        for (int k = 0; k < 40; k++) {
+        for (int k = 0; k < 40 && isThere(x::state, k); k++) {
             int permit = k;
             put(view, Due.answer(() -> x.begin(permit)));
         }
         put(view, linesOf(x));
-        for (int k = 0; k < 6; k++) {
+        for (int k = 0; k < 6 && isThere(x::detour, k); k++) {
             int line = k;
             put(view, Due.answer(() -> x.complain(line)));
         }
         put(view, Due.answer(() -> x.pass(1)));
-        for (int k = 0; k < 40; k++) {
+        for (int k = 0; k < 40 && isThere(x::state, k); k++) {
             int permit = k;
             put(view, Due.answer(() -> x.finish(permit)));
         }
@@ -89,9 +90,9 @@ final class Views {
 
     private static String linesOf(PermitWeave x) {
         StringBuilder view = new StringBuilder();
-        for (int k = 0; k < 6; k++) {
+        for (int k = 0; k < 6 && isThere(x::detour, k); k++) {
             int line = k;
-            put(view, Due.answer(() -> x.detour(line)));
+            put(view, "\nline " + line + ": " + Due.answer(() -> x.detour(line)));
             put(view, Due.answer(() -> x.minutes(line)));
             put(view, Due.answer(() -> x.minutesAnew(line)));
         }
